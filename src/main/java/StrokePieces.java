@@ -126,7 +126,7 @@ public final class StrokePieces {
         return v >= 0 && v <= FARTHEST;
     }
 
-    /** (above / below + 1/2)'; twice the numbers that come here stay far inside a long. */
+    /** (above / below + 1/2)'; the greatest dividend, dx u of a cut, is under 2^61, so twice it stays inside a long. */
     private static long rounded(long above, long below) {
         if (below <= 0) {
             return 0;
@@ -134,7 +134,7 @@ public final class StrokePieces {
         return Math.floorDiv(2 * above + below, 2 * below);
     }
 
-    /** The greatest whole number whose square is not above v, bit by bit, as no double is exact enough. */
+    /** The greatest whole number whose square is not above v, bit by bit; v is at most 2^61. */
     private static long root(long v) {
         long rest = v;
         long found = 0;
@@ -367,6 +367,11 @@ public final class StrokePieces {
         boolean allowsMitre(long cosine) {
             return !bevels && cosine * ONE >= bound * half * half;
         }
+
+        /** The document's w; where a mitre is allowed, the divisor is above 0, as C is above -65536. */
+        long reach(long cosine) {
+            return rounded(half * half * ONE, half * half + cosine);
+        }
     }
 
     /** The pieces of the latest stroke. Once something has stopped it, no more of them are taken. */
@@ -475,7 +480,10 @@ public final class StrokePieces {
             for (int i = 0; i < segments && made.isGoing(); i++) {
                 side();
                 if (i + 1 < segments || run.isRing()) {
-                    goOn(run, i + 1 < segments ? i + 1 : 0);
+                    next.set(run, i + 1 < segments ? i + 1 : 0);
+                    next.widen(tip.half());
+                    joinBoth();
+                    goOn();
                 }
             }
             if (capped) {
@@ -483,10 +491,7 @@ public final class StrokePieces {
             }
         }
 
-        private void goOn(Run run, int i) {
-            next.set(run, i);
-            next.widen(tip.half());
-            joinBoth();
+        private void goOn() {
             Segment behind = here;
             here = next;
             next = behind;
@@ -528,17 +533,12 @@ public final class StrokePieces {
             made.add(here.bx, here.by);
             made.add(here.bx + out * here.nx, here.by + out * here.ny);
             if (pointed) {
-                addPeak(out, cosine);
+                long w = tip.reach(cosine);
+                long qx = rounded((here.nx + next.nx) * w, ONE);
+                long qy = rounded((here.ny + next.ny) * w, ONE);
+                made.add(here.bx + out * qx, here.by + out * qy);
             }
             made.add(here.bx + out * next.nx, here.by + out * next.ny);
-        }
-
-        private void addPeak(long out, long cosine) {
-            long square = tip.half() * tip.half();
-            long w = rounded(square * ONE, square + cosine);
-            long qx = rounded((here.nx + next.nx) * w, ONE);
-            long qy = rounded((here.ny + next.ny) * w, ONE);
-            made.add(here.bx + out * qx, here.by + out * qy);
         }
     }
 
@@ -667,7 +667,14 @@ public final class StrokePieces {
             // Each turn takes a dash, so that the stroke is full before the turns are.
             for (int turn = 0; turn <= MOST_DASHES && left < way.size - gone && made.isGoing(); turn++) {
                 gone += left;
-                change(way.cutX(gone), way.cutY(gone));
+                int x = way.cutX(gone);
+                int y = way.cutY(gone);
+                if (!gap) {
+                    dash.add(x, y);
+                    outline.make(dash);
+                }
+                takeNext();
+                beginDash(x, y);
             }
             left -= way.size - gone;
             if (!gap) {
@@ -675,16 +682,11 @@ public final class StrokePieces {
             }
         }
 
-        private void change(int x, int y) {
-            if (!gap) {
-                dash.add(x, y);
-                outline.make(dash);
-            }
+        private void takeNext() {
             countOne();
             at = pattern.behind(at);
             left = pattern.lengthOf(at);
             gap = !gap;
-            beginDash(x, y);
         }
 
         private void beginDash(int x, int y) {

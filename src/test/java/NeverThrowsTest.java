@@ -49,15 +49,17 @@ final class NeverThrowsTest {
         x.dashes(dashed ? 1 : 0, 0);
         x.move(0, 0);
         for (int i = 1; i < 3000; i++) {
-            x.line(i, i % 2 * 50);
+            Check.due("a point", x.line(i, i % 2 * 50), i < 2000 ? i + 1 : StrokePieces.FULL);
         }
-        x.close();
+        Check.due("a row", x.move(0, 0), StrokePieces.FULL);
+        Check.due("the row that is there", x.close(), 2000);
         Check.due("more than 2000 pieces", x.stroke(), StrokePieces.FULL);
         x.clear();
         x.move(0, 0);
         for (int i = 1; i < 3000; i++) {
             x.line(i, 0);
         }
+        Check.due("a row", x.move(0, 0), StrokePieces.FULL);
         x.close();
         // One dash goes over all points and back to the first one: a run of one point more than there are.
         Check.due("sides of a run of 2001 points", x.stroke(), 2000);
@@ -66,8 +68,8 @@ final class NeverThrowsTest {
     private static void tooManyRows() {
         StrokePieces x = new StrokePieces();
         for (int i = 0; i < 3000; i++) {
-            x.move(i, i);
-            x.close();
+            Check.due("a row", x.move(i, i), i < 2000 ? i + 1 : StrokePieces.FULL);
+            Check.due("is closed", x.close(), Math.min(i + 1, 2000));
         }
         Check.due("points have no pieces", x.stroke(), 0);
     }
