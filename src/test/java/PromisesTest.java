@@ -1,4 +1,4 @@
-/** Each promise of the document with ordinary inputs, its edges and wrong inputs; the answers are worked out by hand. */
+/** Each promise with ordinary inputs, its edges and wrong inputs; the answers are worked out apart from the class. */
 final class PromisesTest {
     private static final int FAR = 536870912;
     private static final int MAX = Integer.MAX_VALUE;
