@@ -115,7 +115,7 @@ public final class StrokePieces {
     }
 
     public int walked() {
-        return walk.taken();
+        return walk.walked();
     }
 
     private static boolean isPlace(long v) {
@@ -628,6 +628,7 @@ public final class StrokePieces {
         private final Segment way = new Segment();
         private final Run dash = new Run();
         private int taken;
+        private int unwalked;
         private int at;
         private long left;
         private boolean gap;
@@ -640,10 +641,11 @@ public final class StrokePieces {
 
         void reset() {
             taken = 0;
+            unwalked = 0;
         }
 
-        int taken() {
-            return taken;
+        int walked() {
+            return taken - unwalked;
         }
 
         void along(Run run) {
@@ -651,8 +653,13 @@ public final class StrokePieces {
             left = pattern.firstLeft();
             gap = pattern.firstGap();
             countOne();
-            beginDash(run.xAt(0), run.yAt(0));
             int segments = run.segments();
+            if (segments == 0) {
+                // The dash where a run begins is taken, but a run of one point has no length to walk.
+                unwalked++;
+                return;
+            }
+            beginDash(run.xAt(0), run.yAt(0));
             for (int i = 0; i < segments && made.isGoing(); i++) {
                 way.set(run, i);
                 pass();

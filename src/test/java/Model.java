@@ -48,6 +48,7 @@ final class Model {
     private long[] dashes = new long[0];
     private long offset = 0;
     private List<Piece> pieces = new ArrayList<>();
+    private int taken = 0;
     private int walked = 0;
 
     private static boolean place(long v) {
@@ -136,6 +137,7 @@ final class Model {
 
     int stroke() {
         pieces = new ArrayList<>();
+        taken = 0;
         walked = 0;
         try {
             for (Row row : rows) {
@@ -285,10 +287,10 @@ final class Model {
     }
 
     private void take() {
-        if (walked == 20000) {
+        if (taken == 20000) {
             throw new Stop(-3);
         }
-        walked++;
+        taken++;
     }
 
     private void walkRun(List<Point> run, boolean closed) {
@@ -300,6 +302,9 @@ final class Model {
         }
         long left = dashes[turn % dashes.length] - rest;
         take();
+        if (run.size() > 1) {
+            walked++;
+        }
         List<Point> inside = new ArrayList<>();
         inside.add(run.get(0));
         List<Point> stops = new ArrayList<>(run);
@@ -319,6 +324,7 @@ final class Model {
                     outline(without(inside), false);
                 }
                 take();
+                walked++;
                 turn++;
                 left = dashes[turn % dashes.length];
                 inside.clear();

@@ -40,6 +40,7 @@ final class PromisesTest {
         promise11Sort();
         promise12Corner();
         promise13Walked();
+        promise13RunsOfOnePoint();
         Check.end();
     }
 
@@ -588,6 +589,13 @@ final class PromisesTest {
         row(x, 0, 0, 5001, 0);
         row(x, 0, 0, 1, 0);
         Check.due("9: where a run begins is one of them", x.stroke(), StrokePieces.FULL);
+        x.clear();
+        row(x, 0, 0, 5000, 0);
+        row(x, 0, 0, 5001, 0);
+        Check.due("9: 20000 again", x.stroke(), 0);
+        x.move(0, 0);
+        Check.due("9: a run of one point, which is not walked, begins with one, too", x.stroke(), StrokePieces.FULL);
+        x.line(1, 0);
         x.dashes(0, 0);
         Check.due("9: without dashes", x.stroke(), 9);
     }
@@ -700,6 +708,33 @@ final class PromisesTest {
         x.clear();
         x.move(5, 5);
         Check.due("13: a run of one point", x.stroke(), 0);
-        Check.due("13: has the dash where it begins", x.walked(), 1);
+        Check.due("13: has no length to walk", x.walked(), 0);
+    }
+
+    /** Points that fall together are a run of one point, too, whether it would begin in a dash or in a gap. */
+    private static void promise13RunsOfOnePoint() {
+        StrokePieces x = withPen(4, 1, 0, 655360);
+        for (int offset = 0; offset <= 10; offset += 10) {
+            useDashes(x, offset, 10, 10);
+            x.clear();
+            row(x, 5, 5, 5, 5, 5, 5);
+            Check.due("13: the same point again and again", x.stroke(), 0);
+            Check.due("13: is not walked", x.walked(), 0);
+            x.close();
+            Check.due("13: closed", x.stroke(), 0);
+            Check.due("13: nor is that", x.walked(), 0);
+            row(x, 0, 0, 40, 0);
+            x.move(7, 7);
+            Check.due("13: a line between two of them", x.stroke(), 6);
+            Check.due("13: is all that is walked", x.walked(), 4);
+            x.line(7, 8);
+            x.stroke();
+            Check.due("13: one unit is a length", x.walked(), 5);
+        }
+        useDashes(x, 0, 0, 10);
+        x.clear();
+        x.move(5, 5);
+        Check.due("13: dashes of no length", x.stroke(), 0);
+        Check.due("13: end where there is a length", x.walked(), 0);
     }
 }
