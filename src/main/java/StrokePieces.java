@@ -115,7 +115,7 @@ public final class StrokePieces {
     }
 
     public int walked() {
-        return walk.walked();
+        return walk.taken();
     }
 
     private static boolean isPlace(long v) {
@@ -628,7 +628,6 @@ public final class StrokePieces {
         private final Segment way = new Segment();
         private final Run dash = new Run();
         private int taken;
-        private int unwalked;
         private int at;
         private long left;
         private boolean gap;
@@ -641,24 +640,22 @@ public final class StrokePieces {
 
         void reset() {
             taken = 0;
-            unwalked = 0;
         }
 
-        int walked() {
-            return taken - unwalked;
+        int taken() {
+            return taken;
         }
 
         void along(Run run) {
+            int segments = run.segments();
+            if (segments == 0) {
+                // Runs are walked by the lengths of their segments: one of a single point takes no dash.
+                return;
+            }
             at = pattern.firstAt();
             left = pattern.firstLeft();
             gap = pattern.firstGap();
             countOne();
-            int segments = run.segments();
-            if (segments == 0) {
-                // The dash where a run begins is taken, but a run of one point has no length to walk.
-                unwalked++;
-                return;
-            }
             beginDash(run.xAt(0), run.yAt(0));
             for (int i = 0; i < segments && made.isGoing(); i++) {
                 way.set(run, i);

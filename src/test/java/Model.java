@@ -48,7 +48,6 @@ final class Model {
     private long[] dashes = new long[0];
     private long offset = 0;
     private List<Piece> pieces = new ArrayList<>();
-    private int taken = 0;
     private int walked = 0;
 
     private static boolean place(long v) {
@@ -137,7 +136,6 @@ final class Model {
 
     int stroke() {
         pieces = new ArrayList<>();
-        taken = 0;
         walked = 0;
         try {
             for (Row row : rows) {
@@ -287,13 +285,16 @@ final class Model {
     }
 
     private void take() {
-        if (taken == 20000) {
+        if (walked == 20000) {
             throw new Stop(-3);
         }
-        taken++;
+        walked++;
     }
 
     private void walkRun(List<Point> run, boolean closed) {
+        if (run.size() < 2) {
+            return;
+        }
         long rest = offset;
         int turn = 0;
         while (dashes[turn % dashes.length] <= rest) {
@@ -302,13 +303,10 @@ final class Model {
         }
         long left = dashes[turn % dashes.length] - rest;
         take();
-        if (run.size() > 1) {
-            walked++;
-        }
         List<Point> inside = new ArrayList<>();
         inside.add(run.get(0));
         List<Point> stops = new ArrayList<>(run);
-        if (closed && run.size() > 1) {
+        if (closed) {
             stops.add(run.get(0));
         }
         for (int i = 0; i + 1 < stops.size(); i++) {
@@ -324,7 +322,6 @@ final class Model {
                     outline(without(inside), false);
                 }
                 take();
-                walked++;
                 turn++;
                 left = dashes[turn % dashes.length];
                 inside.clear();

@@ -34,6 +34,8 @@ final class PromisesTest {
         promise9RangeOfEachKind();
         promise9MostPieces();
         promise9MostDashes();
+        promise9RunsOfOnePointTakeNoDash();
+        promise9ManyRunsOfOnePoint();
         promise9WhicheverComesFirst();
         promise9PiecesBeforeNextDash();
         promise10Pieces();
@@ -594,10 +596,52 @@ final class PromisesTest {
         row(x, 0, 0, 5001, 0);
         Check.due("9: 20000 again", x.stroke(), 0);
         x.move(0, 0);
-        Check.due("9: a run of one point, which is not walked, begins with one, too", x.stroke(), StrokePieces.FULL);
+        Check.due("9: a run of one point takes none", x.stroke(), 0);
+        Check.due("9: so that it is still 20000", x.walked(), 20000);
         x.line(1, 0);
+        Check.due("9: a run of one segment takes one", x.stroke(), StrokePieces.FULL);
         x.dashes(0, 0);
         Check.due("9: without dashes", x.stroke(), 9);
+    }
+
+    /** Seven lengths of 1 unit in all, so that L units take 7 L - 6, from a dash on (offset 0) or from a gap on (1). */
+    private static void promise9RunsOfOnePointTakeNoDash() {
+        StrokePieces x = withPen(1, 0, 0, 655360);
+        for (int offset = 0; offset <= 1; offset++) {
+            useDashes(x, offset, 1, 0, 0, 0, 0, 0, 0);
+            x.clear();
+            x.move(3, 3);
+            row(x, 3, 3, 3, 3);
+            x.close();
+            row(x, 0, 0, 2858, 0);
+            x.move(-7, 2);
+            row(x, 9, 9, 9, 9, 9, 9);
+            x.close();
+            Check.due("9: runs of one point before and behind", x.stroke(), 1429);
+            Check.due("9: leave the 20000 to the other one", x.walked(), 20000);
+            row(x, 9, 9, 9, 10);
+            Check.due("9: a run of 1 unit takes one more", x.stroke(), StrokePieces.FULL);
+            Check.due("9: and none are walked then", x.walked(), 0);
+        }
+    }
+
+    private static void promise9ManyRunsOfOnePoint() {
+        StrokePieces x = new StrokePieces();
+        useDashes(x, 0, 0, 1);
+        for (int i = 0; i < 200; i++) {
+            x.move(i, i);
+        }
+        row(x, 0, 0, 10000, 0);
+        for (int i = 0; i < 200; i++) {
+            x.move(i, i);
+        }
+        Check.due("9: many points, of which one row is walked", x.stroke(), 0);
+        Check.due("9: 10000 gaps and the dashes between them", x.walked(), 19999);
+        row(x, 0, 0, 1, 0);
+        Check.due("9: one gap more", x.stroke(), 0);
+        Check.due("9: is the last one", x.walked(), 20000);
+        row(x, 0, 0, 0, 1);
+        Check.due("9: there is room for", x.stroke(), StrokePieces.FULL);
     }
 
     private static void promise9WhicheverComesFirst() {
