@@ -18,6 +18,14 @@ final class Check {
         due(what, got ? 1L : 0L, want ? 1L : 0L);
     }
 
+    static void due(String what, String got, String want) {
+        asked++;
+        if (!got.equals(want)) {
+            wrong++;
+            System.out.println(what + " answered " + got + ", due is " + want);
+        }
+    }
+
     /** One piece, whole: its sort, and its corners as x, y, x, y and so on. */
     static void piece(String what, StrokePieces x, int i, int sort, int... places) {
         due(what + ": sort(" + i + ")", x.sort(i), sort);

@@ -296,12 +296,12 @@ final class Model {
             return;
         }
         long rest = offset;
-        int turn = 0;
-        while (dashes[turn % dashes.length] <= rest) {
-            rest -= dashes[turn % dashes.length];
+        long turn = 0;
+        while (dashes[(int) (turn % dashes.length)] <= rest) {
+            rest -= dashes[(int) (turn % dashes.length)];
             turn++;
         }
-        long left = dashes[turn % dashes.length] - rest;
+        long left = dashes[(int) (turn % dashes.length)] - rest;
         take();
         List<Point> inside = new ArrayList<>();
         inside.add(run.get(0));
@@ -323,7 +323,7 @@ final class Model {
                 }
                 take();
                 turn++;
-                left = dashes[turn % dashes.length];
+                left = dashes[(int) (turn % dashes.length)];
                 inside.clear();
                 inside.add(cut);
             }

@@ -46,27 +46,6 @@ final class PromisesTest {
         Check.end();
     }
 
-    /** Points as x, y, x, y and so on: a row of them. */
-    private static void row(StrokePieces x, int... places) {
-        x.move(places[0], places[1]);
-        for (int i = 2; i + 1 < places.length; i += 2) {
-            x.line(places[i], places[i + 1]);
-        }
-    }
-
-    private static StrokePieces withPen(int half, int cap, int join, int limit) {
-        StrokePieces x = new StrokePieces();
-        Check.due("pen for a test", x.pen(half, cap, join, limit), true);
-        return x;
-    }
-
-    private static void useDashes(StrokePieces x, int offset, int... lengths) {
-        for (int k = 0; k < lengths.length; k++) {
-            Check.due("length for a test", x.length(k, lengths[k]), true);
-        }
-        Check.due("dashes for a test", x.dashes(lengths.length, offset), true);
-    }
-
     private static void promise1New() {
         StrokePieces x = new StrokePieces();
         Check.due("1: pieces", x.pieces(), 0);
@@ -78,7 +57,7 @@ final class PromisesTest {
         Check.due("1: clear", x.clear(), 0);
         Check.due("1: stroke", x.stroke(), 0);
         Check.due("1: no lengths", x.dashes(8, 0), false);
-        row(x, 0, 0, 100000, 0, 100000, 100000);
+        Given.row(x, 0, 0, 100000, 0, 100000, 100000);
         Check.due("1: stroke without caps and dashes", x.stroke(), 3);
         Check.due("1: walked without dashes", x.walked(), 0);
         Check.piece("1", x, 0, 0, 0, 32768, 100000, 32768, 100000, -32768, 0, -32768);
@@ -94,8 +73,8 @@ final class PromisesTest {
         for (int dy = 202500; dy < 203500; dy += 20) {
             int[] sorts = new int[3];
             for (int i = 0; i < 3; i++) {
-                StrokePieces x = i == 1 ? new StrokePieces() : withPen(32768, 0, 0, limits[i]);
-                row(x, 0, 0, 1000000, 0, 0, dy);
+                StrokePieces x = i == 1 ? new StrokePieces() : Given.pen(32768, 0, 0, limits[i]);
+                Given.row(x, 0, 0, 1000000, 0, 0, dy);
                 x.stroke();
                 sorts[i] = x.sort(1);
             }
@@ -117,8 +96,8 @@ final class PromisesTest {
         Check.due("2: nothing was added", x.clear(), 2);
         Check.due("2: refused", x.move(FAR + 1, 0), StrokePieces.RANGE);
         Check.due("2: and began no row", x.line(0, 0), StrokePieces.NO);
-        row(x, 0, 0, 5, 0);
-        row(x, 50, 0, 55, 0);
+        Given.row(x, 0, 0, 5, 0);
+        Given.row(x, 50, 0, 55, 0);
         Check.due("2: two rows are not joined", x.stroke(), 2);
         for (int i = 5; i <= 400; i++) {
             Check.due("2: many", x.move(i, i), i);
@@ -152,8 +131,8 @@ final class PromisesTest {
     }
 
     private static void promise4Close() {
-        StrokePieces x = withPen(4, 1, 0, 655360);
-        row(x, 0, 0, 100, 0, 100, 100, 0, 100);
+        StrokePieces x = Given.pen(4, 1, 0, 655360);
+        Given.row(x, 0, 0, 100, 0, 100, 100, 0, 100);
         Check.due("4: points", x.close(), 4);
         Check.due("4: closed again", x.close(), 4);
         Check.due("4: a side and a join for each, no caps", x.stroke(), 8);
@@ -168,9 +147,9 @@ final class PromisesTest {
     }
 
     private static void promise4CloseEdges() {
-        StrokePieces x = withPen(4, 0, 0, 655360);
+        StrokePieces x = Given.pen(4, 0, 0, 655360);
         Check.due("4: none", x.close(), StrokePieces.NO);
-        row(x, 0, 0, 10, 0, 10, 10);
+        Given.row(x, 0, 0, 10, 0, 10, 10);
         x.move(500, 500);
         x.line(510, 500);
         Check.due("4: points of all rows", x.close(), 5);
@@ -185,11 +164,11 @@ final class PromisesTest {
     }
 
     private static void promise5Clear() {
-        StrokePieces x = withPen(4, 1, 1, 655360);
+        StrokePieces x = Given.pen(4, 1, 1, 655360);
         Check.due("5: none", x.clear(), 0);
-        useDashes(x, 0, 6, 2);
-        row(x, 0, 0, 10, 0);
-        row(x, 0, 50, 10, 50, 10, 60);
+        Given.dashes(x, 0, 6, 2);
+        Given.row(x, 0, 0, 10, 0);
+        Given.row(x, 0, 50, 10, 50, 10, 60);
         x.close();
         Check.due("5: pieces before", x.stroke() > 0, true);
         Check.due("5: points", x.clear(), 5);
@@ -199,7 +178,7 @@ final class PromisesTest {
         Check.due("5: none again", x.clear(), 0);
         Check.due("5: no row", x.line(0, 0), StrokePieces.NO);
         Check.due("5: nothing to stroke", x.stroke(), 0);
-        row(x, 0, 0, 10, 0);
+        Given.row(x, 0, 0, 10, 0);
         Check.due("5: the pen and the dashes stay", x.stroke(), 6);
         Check.piece("5", x, 4, 0, 8, 4, 10, 4, 10, -4, 8, -4);
     }
@@ -220,8 +199,8 @@ final class PromisesTest {
     }
 
     private static void promise6KeepsOldPen() {
-        StrokePieces x = withPen(4, 1, 0, 655360);
-        row(x, 0, 0, 100, 0, 100, 100);
+        StrokePieces x = Given.pen(4, 1, 0, 655360);
+        Given.row(x, 0, 0, 100, 0, 100, 100);
         x.pen(9, 0, 1, 65535);
         x.pen(9, 0, 2, 65536);
         x.pen(9, 2, 1, 65536);
@@ -242,13 +221,13 @@ final class PromisesTest {
         int[] limits = {65536, 92681, 92682, 6553600};
         int[] sorts = {1, 1, 2, 2};
         for (int i = 0; i < limits.length; i++) {
-            StrokePieces x = withPen(4194304, 0, 0, limits[i]);
-            row(x, 0, 0, 100, 0, 100, 100);
+            StrokePieces x = Given.pen(4194304, 0, 0, limits[i]);
+            Given.row(x, 0, 0, 100, 0, 100, 100);
             x.stroke();
             Check.due("6: right angle at " + limits[i], x.sort(1), sorts[i]);
         }
-        StrokePieces x = withPen(1, 0, 0, 65536);
-        row(x, 0, 0, 100, 0, 200, 1);
+        StrokePieces x = Given.pen(1, 0, 0, 65536);
+        Given.row(x, 0, 0, 100, 0, 200, 1);
         x.stroke();
         Check.piece("6: least limit", x, 1, 2, 100, 0, 100, -1, 100, -1, 100, -1);
     }
@@ -265,7 +244,7 @@ final class PromisesTest {
         }
         Check.due("7: bad ones change nothing", x.dashes(8, 0), false);
         x.pen(1, 0, 0, 655360);
-        row(x, 0, 0, 20, 0);
+        Given.row(x, 0, 0, 20, 0);
         x.length(0, 5);
         x.length(1, 5);
         Check.due("7: not used yet", x.stroke(), 1);
@@ -280,7 +259,7 @@ final class PromisesTest {
             x.length(k, k + 1);
         }
         x.clear();
-        row(x, 0, 0, 36, 0);
+        Given.row(x, 0, 0, 36, 0);
         x.dashes(8, 0);
         Check.due("7: eight lengths", x.stroke(), 4);
         Check.due("7: all walked", x.walked(), 8);
@@ -302,9 +281,9 @@ final class PromisesTest {
     }
 
     private static void promise8KeepsOldDashes() {
-        StrokePieces x = withPen(1, 0, 0, 655360);
-        row(x, 0, 0, 20, 0);
-        useDashes(x, 0, 5, 5);
+        StrokePieces x = Given.pen(1, 0, 0, 655360);
+        Given.row(x, 0, 0, 20, 0);
+        Given.dashes(x, 0, 5, 5);
         x.length(0, 0);
         x.dashes(1, 0);
         x.dashes(9, 3);
@@ -315,16 +294,16 @@ final class PromisesTest {
         Check.due("8: none", x.dashes(0, 3), true);
         Check.due("8: a whole line", x.stroke(), 1);
         Check.due("8: not walked", x.walked(), 0);
-        useDashes(x, 0, 3);
+        Given.dashes(x, 0, 3);
         Check.due("8: one length is dash and gap in turn", x.stroke(), 4);
         Check.due("8: seven of them", x.walked(), 7);
         Check.piece("8", x, 3, 0, 18, 1, 20, 1, 20, -1, 18, -1);
     }
 
     private static void promise8Offset() {
-        StrokePieces x = withPen(1, 0, 0, 655360);
-        row(x, 0, 0, 20, 0);
-        useDashes(x, 4, 5, 3);
+        StrokePieces x = Given.pen(1, 0, 0, 655360);
+        Given.row(x, 0, 0, 20, 0);
+        Given.dashes(x, 4, 5, 3);
         Check.due("8: one unit is left of the first", x.stroke(), 3);
         Check.piece("8", x, 0, 0, 0, 1, 1, 1, 1, -1, 0, -1);
         Check.piece("8", x, 1, 0, 4, 1, 9, 1, 9, -1, 4, -1);
@@ -334,27 +313,27 @@ final class PromisesTest {
         Check.due("8: and not counted", x.walked(), 6);
         Check.piece("8", x, 0, 0, 3, 1, 8, 1, 8, -1, 3, -1);
         Check.piece("8", x, 2, 0, 19, 1, 20, 1, 20, -1, 19, -1);
-        useDashes(x, 7, 5, 0, 4);
+        Given.dashes(x, 7, 5, 0, 4);
         Check.due("8: two of the third are left", x.stroke(), 3);
         Check.piece("8", x, 0, 0, 0, 1, 2, 1, 2, -1, 0, -1);
         Check.piece("8: a gap is there, then none", x, 1, 0, 11, 1, 16, 1, 16, -1, 11, -1);
         Check.piece("8", x, 2, 0, 16, 1, 20, 1, 20, -1, 16, -1);
-        useDashes(x, 0, 0, 6, 2);
+        Given.dashes(x, 0, 0, 6, 2);
         Check.due("8: a dash of no length is passed with no offset, too", x.stroke(), 2);
         Check.due("8: from the gap on", x.walked(), 7);
     }
 
     private static void promise8GreatOffset() {
-        StrokePieces x = withPen(1, 0, 0, 655360);
-        row(x, 0, 0, 3, 0);
-        useDashes(x, FAR, 1);
+        StrokePieces x = Given.pen(1, 0, 0, 655360);
+        Given.row(x, 0, 0, 3, 0);
+        Given.dashes(x, FAR, 1);
         Check.due("8: an even number is passed", x.stroke(), 2);
         x.dashes(1, FAR - 1);
         Check.due("8: an odd number is passed", x.stroke(), 1);
         Check.piece("8", x, 0, 0, 1, 1, 2, 1, 2, -1, 1, -1);
-        useDashes(x, FAR, 0, 0, 0, 0, 0, 0, 1, 0);
+        Given.dashes(x, FAR, 0, 0, 0, 0, 0, 0, 1, 0);
         Check.due("8: seven in eight have no length", x.stroke(), 3);
-        useDashes(x, FAR, FAR, FAR, FAR, FAR, FAR, FAR, FAR, FAR);
+        Given.dashes(x, FAR, FAR, FAR, FAR, FAR, FAR, FAR, FAR, FAR);
         Check.due("8: a gap", x.stroke(), 0);
         Check.due("8: one gap", x.walked(), 1);
         x.dashes(8, FAR - 1);
@@ -364,8 +343,8 @@ final class PromisesTest {
     }
 
     private static void promise9Corner() {
-        StrokePieces x = withPen(4, 1, 0, 655360);
-        row(x, 0, 0, 100, 0, 100, -100);
+        StrokePieces x = Given.pen(4, 1, 0, 655360);
+        Given.row(x, 0, 0, 100, 0, 100, -100);
         Check.due("9: cap, side, join, side, cap", x.stroke(), 5);
         Check.piece("9", x, 0, 3, 0, -4, -4, -4, -4, 4, 0, 4);
         Check.piece("9", x, 1, 0, 0, 4, 100, 4, 100, -4, 0, -4);
@@ -378,79 +357,79 @@ final class PromisesTest {
     }
 
     private static void promise9MitrePeak() {
-        StrokePieces x = withPen(10, 0, 0, 655360);
-        row(x, 0, 0, 100, 0, 160, 80);
+        StrokePieces x = Given.pen(10, 0, 0, 655360);
+        Given.row(x, 0, 0, 100, 0, 160, 80);
         Check.due("9: pieces", x.stroke(), 3);
         Check.piece("9", x, 1, 2, 100, 0, 100, -10, 105, -10, 108, -6);
         x.clear();
-        row(x, -7, 3, 9, 3, 2, 3);
+        Given.row(x, -7, 3, 9, 3, 2, 3);
         Check.due("9: there and back has no join", x.stroke(), 2);
         x.clear();
-        row(x, -7, 3, 9, 3, 20, 3);
+        Given.row(x, -7, 3, 9, 3, 20, 3);
         Check.due("9: straight on has no join", x.stroke(), 2);
     }
 
     /** Lengths are roots rounded down, and halves go up: this way and back are not alike. */
     private static void promise9Halves() {
-        StrokePieces x = withPen(1, 1, 0, 655360);
-        row(x, 0, 0, 2, 1);
+        StrokePieces x = Given.pen(1, 1, 0, 655360);
+        Given.row(x, 0, 0, 2, 1);
         x.stroke();
         Check.piece("9", x, 0, 3, 0, -1, -1, -2, -1, 0, 0, 1);
         Check.piece("9", x, 1, 0, 0, 1, 2, 2, 2, 0, 0, -1);
         Check.piece("9", x, 2, 3, 2, 2, 3, 3, 3, 1, 2, 0);
         x.clear();
-        row(x, 2, 1, 0, 0);
+        Given.row(x, 2, 1, 0, 0);
         x.stroke();
         Check.piece("9", x, 0, 3, 1, 2, 2, 2, 4, 0, 3, 0);
         Check.piece("9", x, 1, 0, 3, 0, 1, -1, -1, 1, 1, 2);
         Check.piece("9", x, 2, 3, 1, -1, 0, -1, -2, 1, -1, 1);
         x.clear();
         x.pen(4194304, 0, 0, 655360);
-        row(x, -500000000, -500000000, 500000000, 500000000);
+        Given.row(x, -500000000, -500000000, 500000000, 500000000);
         x.stroke();
         Check.piece("9: the longest", x, 0, 0, -502965821, -497034179, 497034179, 502965821,
                 502965821, 497034179, -497034179, -502965821);
     }
 
     private static void promise9PassedOver() {
-        StrokePieces x = withPen(4, 1, 0, 655360);
-        row(x, 5, 5, 5, 5, 5, 5);
+        StrokePieces x = Given.pen(4, 1, 0, 655360);
+        Given.row(x, 5, 5, 5, 5, 5, 5);
         Check.due("9: a run of one point", x.stroke(), 0);
         x.close();
         Check.due("9: closed, too", x.stroke(), 0);
         x.clear();
-        row(x, 0, 0, 0, 0, 100, 0, 100, 0, 100, 0, 100, 100, 100, 100);
+        Given.row(x, 0, 0, 0, 0, 100, 0, 100, 0, 100, 0, 100, 100, 100, 100);
         Check.due("9: the same points are passed over", x.stroke(), 5);
         x.clear();
-        row(x, 0, 0, 100, 0, 100, 100, 0, 100, 0, 0, 0, 0);
+        Given.row(x, 0, 0, 100, 0, 100, 100, 0, 100, 0, 0, 0, 0);
         Check.due("9: an open row comes back", x.stroke(), 9);
         x.close();
         Check.due("9: a closed row loses its last ones", x.stroke(), 8);
         Check.piece("9", x, 7, 2, 0, 0, -4, 0, -4, -4, 0, -4);
         x.clear();
-        row(x, 0, 0, 10, 0);
+        Given.row(x, 0, 0, 10, 0);
         x.close();
         Check.due("9: a closed row of two points", x.stroke(), 2);
     }
 
     private static void promise9Cuts() {
-        StrokePieces x = withPen(1, 0, 0, 655360);
-        useDashes(x, 0, 1, 1);
-        row(x, 0, 0, -1, -2);
+        StrokePieces x = Given.pen(1, 0, 0, 655360);
+        Given.dashes(x, 0, 1, 1);
+        Given.row(x, 0, 0, -1, -2);
         Check.due("9: half a unit left goes up", x.stroke(), 1);
         Check.due("9: of two", x.walked(), 2);
         Check.piece("9", x, 0, 0, 1, 0, 1, -1, -1, -1, -1, 0);
         x.clear();
-        row(x, 0, 0, -3, -4);
+        Given.row(x, 0, 0, -3, -4);
         x.pen(10, 0, 0, 655360);
         Check.due("9: three dashes", x.stroke(), 3);
         // (-0.6, -0.8) is cut at (-1, -1), (-1.2, -1.6) at (-1, -2), (-1.8, -2.4) at (-2, -2).
         Check.piece("9", x, 0, 0, 10, -10, 9, -11, -11, 9, -10, 10);
         Check.piece("9", x, 1, 0, -1, -12, -2, -12, -2, 8, -1, 8);
         x.clear();
-        row(x, -FAR, -FAR, FAR, FAR);
+        Given.row(x, -FAR, -FAR, FAR, FAR);
         x.pen(4194304, 0, 0, 655360);
-        useDashes(x, FAR, FAR, FAR);
+        Given.dashes(x, FAR, FAR, FAR);
         Check.due("9: the longest way", x.stroke(), 1);
         Check.due("9: a gap, a dash, a gap", x.walked(), 3);
         Check.piece("9", x, 0, 0, -160211670, -154280028, 219413392, 225345034,
@@ -458,9 +437,9 @@ final class PromisesTest {
     }
 
     private static void promise9DashRoundCorner() {
-        StrokePieces x = withPen(1, 1, 0, 655360);
-        row(x, 0, 0, 10, 0, 10, 10);
-        useDashes(x, 0, 15, 3);
+        StrokePieces x = Given.pen(1, 1, 0, 655360);
+        Given.row(x, 0, 0, 10, 0, 10, 10);
+        Given.dashes(x, 0, 15, 3);
         Check.due("9: round a corner", x.stroke(), 8);
         Check.due("9: three walked", x.walked(), 3);
         Check.piece("9", x, 0, 3, 0, -1, -1, -1, -1, 1, 0, 1);
@@ -469,25 +448,25 @@ final class PromisesTest {
         Check.piece("9", x, 3, 0, 9, 0, 9, 5, 11, 5, 11, 0);
         Check.piece("9", x, 4, 3, 9, 5, 9, 6, 11, 6, 11, 5);
         Check.piece("9: the last one ends with what is walked", x, 6, 0, 9, 8, 9, 10, 11, 10, 11, 8);
-        useDashes(x, 0, 10, 5);
+        Given.dashes(x, 0, 10, 5);
         Check.due("9: an end at the corner makes no join", x.stroke(), 6);
         Check.due("9: the gap begins there", x.walked(), 3);
         Check.piece("9", x, 4, 0, 9, 5, 9, 10, 11, 10, 11, 5);
-        useDashes(x, 0, 20);
+        Given.dashes(x, 0, 20);
         Check.due("9: the whole way", x.stroke(), 5);
         Check.due("9: is one dash", x.walked(), 1);
     }
 
     private static void promise9DashedRing() {
-        StrokePieces x = withPen(1, 1, 0, 655360);
-        row(x, 0, 0, 10, 0, 10, 10, 0, 10, 0, 0);
+        StrokePieces x = Given.pen(1, 1, 0, 655360);
+        Given.row(x, 0, 0, 10, 0, 10, 10, 0, 10, 0, 0);
         x.close();
-        useDashes(x, 0, 40);
+        Given.dashes(x, 0, 40);
         Check.due("9: a dash round a ring is open", x.stroke(), 9);
         Check.due("9: one dash", x.walked(), 1);
         Check.piece("9", x, 7, 0, 1, 10, 1, 0, -1, 0, -1, 10);
         Check.piece("9", x, 8, 3, 1, 0, 1, -1, -1, -1, -1, 0);
-        useDashes(x, 5, 10, 10);
+        Given.dashes(x, 5, 10, 10);
         Check.due("9: begins and ends at the first point", x.stroke(), 11);
         Check.due("9: five walked", x.walked(), 5);
         x.move(100, 100);
@@ -501,11 +480,11 @@ final class PromisesTest {
     private static void promise9RangeEdge() {
         int[][] ends = {{1, 0}, {0, 1}, {-1, 0}, {0, -1}};
         for (int[] e : ends) {
-            StrokePieces x = withPen(4, 1, 0, 655360);
-            row(x, e[0] * 100, e[1] * 100, e[0] * (FAR - 4), e[1] * (FAR - 4));
+            StrokePieces x = Given.pen(4, 1, 0, 655360);
+            Given.row(x, e[0] * 100, e[1] * 100, e[0] * (FAR - 4), e[1] * (FAR - 4));
             Check.due("9: a corner at the edge", x.stroke(), 3);
             x.clear();
-            row(x, e[0] * 100, e[1] * 100, e[0] * (FAR - 3), e[1] * (FAR - 3));
+            Given.row(x, e[0] * 100, e[1] * 100, e[0] * (FAR - 3), e[1] * (FAR - 3));
             Check.due("9: a corner beyond", x.stroke(), StrokePieces.RANGE);
             Check.due("9: none are left", x.pieces(), 0);
             Check.due("9: none to see", x.sort(0), StrokePieces.BAD);
@@ -515,34 +494,34 @@ final class PromisesTest {
     }
 
     private static void promise9RangeOfEachKind() {
-        StrokePieces x = withPen(4, 0, 0, 655360);
-        row(x, 0, FAR - 3, 100, FAR - 3);
+        StrokePieces x = Given.pen(4, 0, 0, 655360);
+        Given.row(x, 0, FAR - 3, 100, FAR - 3);
         Check.due("9: a side beyond", x.stroke(), StrokePieces.RANGE);
         x.clear();
-        row(x, FAR, 0, FAR, 0);
+        Given.row(x, FAR, 0, FAR, 0);
         Check.due("9: a point has no corners", x.stroke(), 0);
         x.clear();
         x.pen(10000, 0, 0, 6553600);
-        row(x, FAR - 200000, 0, FAR - 100000, 0, FAR - 200000, 3000);
+        Given.row(x, FAR - 200000, 0, FAR - 100000, 0, FAR - 200000, 3000);
         Check.due("9: a mitre beyond", x.stroke(), StrokePieces.RANGE);
         x.pen(10000, 0, 1, 6553600);
         Check.due("9: a bevel instead", x.stroke(), 3);
         x.clear();
         x.pen(100, 1, 0, 6553600);
-        row(x, -FAR + 2000, 0, -FAR + 101, 0, -FAR + 101, 1900);
+        Given.row(x, -FAR + 2000, 0, -FAR + 101, 0, -FAR + 101, 1900);
         Check.due("9: a mitre inside", x.stroke(), 5);
         x.clear();
-        row(x, 0, 0, 0, -FAR + 100, 500, -FAR + 100);
+        Given.row(x, 0, 0, 0, -FAR + 100, 500, -FAR + 100);
         Check.due("9: at the edge", x.stroke(), 5);
         x.clear();
-        row(x, 0, 0, 0, -FAR + 99, 500, -FAR + 99);
+        Given.row(x, 0, 0, 0, -FAR + 99, 500, -FAR + 99);
         Check.due("9: beyond it", x.stroke(), StrokePieces.RANGE);
     }
 
     private static void promise9MostPieces() {
-        StrokePieces x = withPen(1, 0, 0, 655360);
-        useDashes(x, 0, 1, 1);
-        row(x, 0, 0, 4000, 0);
+        StrokePieces x = Given.pen(1, 0, 0, 655360);
+        Given.dashes(x, 0, 1, 1);
+        Given.row(x, 0, 0, 4000, 0);
         Check.due("9: 2000 pieces", x.stroke(), 2000);
         Check.due("9: 4000 walked", x.walked(), 4000);
         Check.piece("9", x, 1999, 0, 3998, 1, 3999, 1, 3999, -1, 3998, -1);
@@ -554,30 +533,30 @@ final class PromisesTest {
         Check.due("9: no corner", x.corner(1, 0, 0), 0);
         Check.due("9: none walked", x.walked(), 0);
         x.clear();
-        row(x, 0, 0, 3999, 0);
-        row(x, 0, 0, 0, 0);
+        Given.row(x, 0, 0, 3999, 0);
+        Given.row(x, 0, 0, 0, 0);
         Check.due("9: a run of one point does not matter", x.stroke(), 2000);
         x.line(0, 1);
         Check.due("9: a row more does", x.stroke(), StrokePieces.FULL);
         x.pen(1, 1, 0, 655360);
         x.clear();
-        row(x, 0, 0, 1332, 0);
+        Given.row(x, 0, 0, 1332, 0);
         Check.due("9: with caps", x.stroke(), 1998);
         x.line(1333, 0);
         Check.due("9: a side and a cap fit, the other one does not", x.stroke(), StrokePieces.FULL);
     }
 
     private static void promise9MostDashes() {
-        StrokePieces x = withPen(1, 1, 0, 655360);
-        useDashes(x, 0, 1, 0, 0, 1);
+        StrokePieces x = Given.pen(1, 1, 0, 655360);
+        Given.dashes(x, 0, 1, 0, 0, 1);
         // The first dash of no length is a gap, the second one a dash: a whole turn is walked in 2 units.
-        row(x, 0, 0, 8, 0);
+        Given.row(x, 0, 0, 8, 0);
         Check.due("9: four dashes with caps", x.stroke(), 12);
         Check.due("9: sixteen walked", x.walked(), 16);
-        useDashes(x, 1, 0, 1);
+        Given.dashes(x, 1, 0, 1);
         x.clear();
-        row(x, 0, 0, 5000, 0);
-        row(x, 0, 0, 5000, 0);
+        Given.row(x, 0, 0, 5000, 0);
+        Given.row(x, 0, 0, 5000, 0);
         Check.due("9: 20000 dashes", x.stroke(), 0);
         Check.due("9: 20000 walked but for those of the offset", x.walked(), 2 * 9999);
         x.line(5001, 0);
@@ -587,13 +566,13 @@ final class PromisesTest {
         Check.due("9: and two more", x.stroke(), StrokePieces.FULL);
         Check.due("9: none walked", x.walked(), 0);
         x.clear();
-        row(x, 0, 0, 5000, 0);
-        row(x, 0, 0, 5001, 0);
-        row(x, 0, 0, 1, 0);
+        Given.row(x, 0, 0, 5000, 0);
+        Given.row(x, 0, 0, 5001, 0);
+        Given.row(x, 0, 0, 1, 0);
         Check.due("9: where a run begins is one of them", x.stroke(), StrokePieces.FULL);
         x.clear();
-        row(x, 0, 0, 5000, 0);
-        row(x, 0, 0, 5001, 0);
+        Given.row(x, 0, 0, 5000, 0);
+        Given.row(x, 0, 0, 5001, 0);
         Check.due("9: 20000 again", x.stroke(), 0);
         x.move(0, 0);
         Check.due("9: a run of one point takes none", x.stroke(), 0);
@@ -606,20 +585,20 @@ final class PromisesTest {
 
     /** Seven lengths of 1 unit in all, so that L units take 7 L - 6, from a dash on (offset 0) or from a gap on (1). */
     private static void promise9RunsOfOnePointTakeNoDash() {
-        StrokePieces x = withPen(1, 0, 0, 655360);
+        StrokePieces x = Given.pen(1, 0, 0, 655360);
         for (int offset = 0; offset <= 1; offset++) {
-            useDashes(x, offset, 1, 0, 0, 0, 0, 0, 0);
+            Given.dashes(x, offset, 1, 0, 0, 0, 0, 0, 0);
             x.clear();
             x.move(3, 3);
-            row(x, 3, 3, 3, 3);
+            Given.row(x, 3, 3, 3, 3);
             x.close();
-            row(x, 0, 0, 2858, 0);
+            Given.row(x, 0, 0, 2858, 0);
             x.move(-7, 2);
-            row(x, 9, 9, 9, 9, 9, 9);
+            Given.row(x, 9, 9, 9, 9, 9, 9);
             x.close();
             Check.due("9: runs of one point before and behind", x.stroke(), 1429);
             Check.due("9: leave the 20000 to the other one", x.walked(), 20000);
-            row(x, 9, 9, 9, 10);
+            Given.row(x, 9, 9, 9, 10);
             Check.due("9: a run of 1 unit takes one more", x.stroke(), StrokePieces.FULL);
             Check.due("9: and none are walked then", x.walked(), 0);
         }
@@ -627,59 +606,59 @@ final class PromisesTest {
 
     private static void promise9ManyRunsOfOnePoint() {
         StrokePieces x = new StrokePieces();
-        useDashes(x, 0, 0, 1);
+        Given.dashes(x, 0, 0, 1);
         for (int i = 0; i < 200; i++) {
             x.move(i, i);
         }
-        row(x, 0, 0, 10000, 0);
+        Given.row(x, 0, 0, 10000, 0);
         for (int i = 0; i < 200; i++) {
             x.move(i, i);
         }
         Check.due("9: many points, of which one row is walked", x.stroke(), 0);
         Check.due("9: 10000 gaps and the dashes between them", x.walked(), 19999);
-        row(x, 0, 0, 1, 0);
+        Given.row(x, 0, 0, 1, 0);
         Check.due("9: one gap more", x.stroke(), 0);
         Check.due("9: is the last one", x.walked(), 20000);
-        row(x, 0, 0, 0, 1);
+        Given.row(x, 0, 0, 0, 1);
         Check.due("9: there is room for", x.stroke(), StrokePieces.FULL);
     }
 
     private static void promise9WhicheverComesFirst() {
-        StrokePieces x = withPen(4, 0, 0, 655360);
-        useDashes(x, 0, 1, 1);
-        row(x, FAR, 0, FAR, 1);
-        row(x, 0, 0, 4001, 0);
+        StrokePieces x = Given.pen(4, 0, 0, 655360);
+        Given.dashes(x, 0, 1, 1);
+        Given.row(x, FAR, 0, FAR, 1);
+        Given.row(x, 0, 0, 4001, 0);
         Check.due("9: range, then full", x.stroke(), StrokePieces.RANGE);
         x.clear();
-        row(x, 0, 0, 4001, 0);
-        row(x, FAR, 0, FAR, 1);
+        Given.row(x, 0, 0, 4001, 0);
+        Given.row(x, FAR, 0, FAR, 1);
         Check.due("9: full, then range", x.stroke(), StrokePieces.FULL);
         x.clear();
-        row(x, FAR - 4005, 0, FAR, 0, FAR, 5);
+        Given.row(x, FAR - 4005, 0, FAR, 0, FAR, 5);
         Check.due("9: full of pieces on the way to the edge", x.stroke(), StrokePieces.FULL);
         x.clear();
-        row(x, FAR - 3900, 0, FAR, 0, FAR, 500);
+        Given.row(x, FAR - 3900, 0, FAR, 0, FAR, 500);
         Check.due("9: beyond the edge before it is full", x.stroke(), StrokePieces.RANGE);
     }
 
     /** The 20000th dash has the first piece that is beyond: that is seen before a further one is taken. */
     private static void promise9PiecesBeforeNextDash() {
-        StrokePieces x = withPen(3, 0, 0, 655360);
-        useDashes(x, 1, 1, 1, 0, 1, 0, 1, 0, 1);
-        row(x, 0, 0, 8839, 8839);
+        StrokePieces x = Given.pen(3, 0, 0, 655360);
+        Given.dashes(x, 1, 1, 1, 0, 1, 0, 1, 0, 1);
+        Given.row(x, 0, 0, 8839, 8839);
         Check.due("9: 20000 dashes, of which some have no length when cut", x.stroke() > 1000, true);
         Check.due("9: all of them", x.walked(), 20000);
         x.clear();
-        row(x, 0, 0, 8841, 8841);
+        Given.row(x, 0, 0, 8841, 8841);
         Check.due("9: one more", x.stroke(), StrokePieces.FULL);
         x.clear();
-        row(x, FAR - 8841, FAR - 8841, FAR, FAR);
+        Given.row(x, FAR - 8841, FAR - 8841, FAR, FAR);
         Check.due("9: beyond", x.stroke(), StrokePieces.RANGE);
     }
 
     private static void promise10Pieces() {
-        StrokePieces x = withPen(4, 1, 0, 655360);
-        row(x, 0, 0, 100, 0);
+        StrokePieces x = Given.pen(4, 1, 0, 655360);
+        Given.row(x, 0, 0, 100, 0);
         Check.due("10: not stroked yet", x.pieces(), 0);
         x.stroke();
         Check.due("10: a side and two caps", x.pieces(), 3);
@@ -691,14 +670,14 @@ final class PromisesTest {
         Check.due("10: two sides, a join and two caps", x.pieces(), 5);
         x.stroke();
         Check.due("10: each stroke anew", x.pieces(), 5);
-        row(x, FAR, 0, FAR, 9);
+        Given.row(x, FAR, 0, FAR, 9);
         x.stroke();
         Check.due("10: none", x.pieces(), 0);
     }
 
     private static void promise11Sort() {
-        StrokePieces x = withPen(4, 1, 0, 92682);
-        row(x, 0, 0, 100, 0, 100, 100, 0, 50);
+        StrokePieces x = Given.pen(4, 1, 0, 92682);
+        Given.row(x, 0, 0, 100, 0, 100, 100, 0, 50);
         x.stroke();
         int[] want = {3, 0, 2, 0, 1, 0, 3};
         Check.due("11: pieces", x.pieces(), want.length);
@@ -711,25 +690,25 @@ final class PromisesTest {
     }
 
     private static void promise12Corner() {
-        StrokePieces x = withPen(4, 0, 1, 655360);
-        row(x, 1000, 2000, 1100, 2000, 1100, 2100);
+        StrokePieces x = Given.pen(4, 0, 1, 655360);
+        Given.row(x, 1000, 2000, 1100, 2000, 1100, 2100);
         x.stroke();
         Check.piece("12", x, 0, 0, 1000, 2004, 1100, 2004, 1100, 1996, 1000, 1996);
         Check.piece("12: three corners", x, 1, 1, 1100, 2000, 1100, 1996, 1104, 2000);
         Check.piece("12", x, 2, 0, 1096, 2000, 1096, 2100, 1104, 2100, 1104, 2000);
         int[][] none = {{-1, 0, 0}, {3, 0, 0}, {2000, 0, 0}, {MAX, 0, 0}, {MIN, 0, 0}, {0, -1, 0}, {0, 4, 0},
             {0, MAX, 0}, {0, MIN, 1}, {1, 3, 0}, {1, 3, 1}, {0, 0, -1}, {0, 0, 2}, {0, 0, MAX}, {0, 0, MIN},
-            {1, -1, 0}, {1, -1, 1}, {0, 4, -1}, {2, -1, 0}, {2, -1, 1}, {2, 0, -1}, {2, 1, -1}, {0, 3, 2}, {268435456, 0, 0},
-            {536870912, 0, 0}};
+            {1, -1, 0}, {1, -1, 1}, {0, 4, -1}, {2, -1, 0}, {2, -1, 1}, {2, 0, -1}, {2, 1, -1}, {0, 3, 2},
+            {268435456, 0, 0}, {536870912, 0, 0}};
         for (int[] n : none) {
             Check.due("12: none such", x.corner(n[0], n[1], n[2]), 0);
         }
     }
 
     private static void promise13Walked() {
-        StrokePieces x = withPen(4, 0, 0, 655360);
-        row(x, 0, 0, 100, 0);
-        useDashes(x, 0, 10, 10);
+        StrokePieces x = Given.pen(4, 0, 0, 655360);
+        Given.row(x, 0, 0, 100, 0);
+        Given.dashes(x, 0, 10, 10);
         Check.due("13: before", x.walked(), 0);
         x.stroke();
         Check.due("13: ten", x.walked(), 10);
@@ -745,8 +724,8 @@ final class PromisesTest {
         Check.due("13: each stroke anew", x.walked(), 20);
         Check.due("13: points", x.clear(), 3);
         Check.due("13: the latest stroke is still that", x.walked(), 20);
-        row(x, 0, 0, 100, 0);
-        row(x, FAR, 0, FAR, 5);
+        Given.row(x, 0, 0, 100, 0);
+        Given.row(x, FAR, 0, FAR, 5);
         Check.due("13: beyond", x.stroke(), StrokePieces.RANGE);
         Check.due("13: none", x.walked(), 0);
         x.clear();
@@ -757,17 +736,17 @@ final class PromisesTest {
 
     /** Points that fall together are a run of one point, too, whether it would begin in a dash or in a gap. */
     private static void promise13RunsOfOnePoint() {
-        StrokePieces x = withPen(4, 1, 0, 655360);
+        StrokePieces x = Given.pen(4, 1, 0, 655360);
         for (int offset = 0; offset <= 10; offset += 10) {
-            useDashes(x, offset, 10, 10);
+            Given.dashes(x, offset, 10, 10);
             x.clear();
-            row(x, 5, 5, 5, 5, 5, 5);
+            Given.row(x, 5, 5, 5, 5, 5, 5);
             Check.due("13: the same point again and again", x.stroke(), 0);
             Check.due("13: is not walked", x.walked(), 0);
             x.close();
             Check.due("13: closed", x.stroke(), 0);
             Check.due("13: nor is that", x.walked(), 0);
-            row(x, 0, 0, 40, 0);
+            Given.row(x, 0, 0, 40, 0);
             x.move(7, 7);
             Check.due("13: a line between two of them", x.stroke(), 6);
             Check.due("13: is all that is walked", x.walked(), 4);
@@ -775,7 +754,7 @@ final class PromisesTest {
             x.stroke();
             Check.due("13: one unit is a length", x.walked(), 5);
         }
-        useDashes(x, 0, 0, 10);
+        Given.dashes(x, 0, 0, 10);
         x.clear();
         x.move(5, 5);
         Check.due("13: dashes of no length", x.stroke(), 0);
